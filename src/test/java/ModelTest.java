@@ -4,11 +4,12 @@ import java.lang.reflect.Modifier;
 import java.util.ArrayList;
 import java.util.Comparator;
 import java.util.List;
+import java.util.Map;
 import java.util.Random;
 
 /** Runs of calls drawn from a fixed seed: the class must answer as the literal model does, in every promise. */
 public final class ModelTest {
-    private static final int RUNS = 700;
+    private static final int RUNS = 400;
     private static final int CALLS = 480;
 
     private final Random random;
@@ -49,7 +50,7 @@ public final class ModelTest {
 
     private static final List<Method> FACE = face();
     private static final List<String> OFTEN = List.of("borrow", "borrow", "borrow", "recall", "recall", "passDays",
-        "returnShares", "undo", "setPolicy", "setLimit", "buyShares", "sellShares", "setRate", "payDividend", "setPrice");
+        "returnShares", "recall", "setPolicy", "setLimit", "buyShares", "sellShares", "setRate", "payDividend", "setPrice");
 
     private boolean run() {
         boolean good = random.nextInt(20) == 0 || text(poolText(), "parsePool");
@@ -112,10 +113,10 @@ public final class ModelTest {
         int lenders = 1 + random.nextInt(6);
         int borrowers = 1 + random.nextInt(4);
         for (int i = 0; i < securities; i++) {
-            t.append("security " + (1 + random.nextInt(among(9, 300, 9999))) + " " + random.nextInt(among(60, 10000)) + ";");
+            t.append("security " + (1 + random.nextInt(among(9, 9, 300, 9999))) + " " + random.nextInt(among(60, 10000)) + ";");
         }
         for (int i = 0; i < lenders; i++) {
-            t.append("lender " + random.nextInt(101) + " " + among(0, 50, 90, 100, 100, random.nextInt(101))
+            t.append("lender " + random.nextInt(101) + " " + among(100, 90, 100, 100, 100, random.nextInt(101))
                 + " " + random.nextInt(101) + ";");
         }
         for (int i = 0; i < borrowers; i++) {
@@ -128,17 +129,20 @@ public final class ModelTest {
                 }
             }
         }
-        return spoilt(t.toString(), 8);
+        for (int i = random.nextInt(40) - 35; i > 0; i--) {
+            t.append(List.of("security 9 9;", "lender 9 9 9;", "borrower 9;").get(random.nextInt(3)));
+        }
+        return spoilt(t.toString(), 4);
     }
 
     private String orderText() {
         StringBuilder t = new StringBuilder();
-        for (int i = random.nextInt(12); i > 0; i--) {
+        for (int i = random.nextInt(9); i > 0; i--) {
             String word = List.of("borrow", "return", "recall", "pass", "price", "dividend").get(random.nextInt(6));
             t.append(switch (word) {
-                case "borrow" -> word + " " + random.nextInt(2) + " " + random.nextInt(2) + " " + quantity() + " " + random.nextInt(9999);
-                case "return" -> word + " " + loanNumber() + " " + (1 + random.nextInt(3));
-                case "recall" -> word + " " + random.nextInt(3) + " " + random.nextInt(2) + " " + (1 + random.nextInt(5));
+                case "borrow" -> word + " " + random.nextInt(2) + " " + random.nextInt(2) + " " + (1 + random.nextInt(5)) + " " + random.nextInt(9999);
+                case "return" -> word + " " + Math.max(0, loanNumber()) + " " + (1 + random.nextInt(3));
+                case "recall" -> word + " " + random.nextInt(3) + " 0 " + (1 + random.nextInt(3));
                 case "pass" -> word + " " + (1 + random.nextInt(20));
                 case "price" -> word + " " + random.nextInt(2) + " " + (1 + random.nextInt(500));
                 default -> word + " " + random.nextInt(2) + " " + (1 + random.nextInt(50));
@@ -153,10 +157,17 @@ public final class ModelTest {
         StringBuilder t = new StringBuilder(text);
         for (int i = random.nextInt(seldom) == 0 ? 1 + random.nextInt(2) : 0; i > 0; i--) {
             int at = random.nextInt(t.length() + 1);
+            if (random.nextInt(3) == 0) {
+                at = t.indexOf(";", at) + 1;
+            }
             String more = List.of(" ", "\n", "0", "9", "99999999", ";", "x", "A", "\u00e9", "\u0000", "pool 1 1;", "security 1 1;",
                 "lender 1 1 1;", "borrower 5;", "pass 1;", ":", "`", "{", "/", "\t").get(random.nextInt(20));
-            switch (random.nextInt(4)) {
+            switch (random.nextInt(5)) {
                 case 0 -> t.insert(at, more);
+                case 4 -> {
+                    int number = Math.max(0, t.indexOf(" ", at));
+                    t.insert(number, " " + among(5, 31, 101, 10000, 100000, 10000000));
+                }
                 case 1 -> t.setLength(at);
                 case 2 -> t.replace(at, Math.min(t.length(), at + 1), more);
                 default -> t.delete(at, Math.min(t.length(), at + 1 + random.nextInt(4)));
@@ -166,7 +177,8 @@ public final class ModelTest {
     }
 
     private int quantity() {
-        return among(1 + random.nextInt(Math.max(1, scale)), 1 + random.nextInt(Math.max(1, scale / 4)), 1 + random.nextInt(5));
+        return among(1 + random.nextInt(scale), 1 + random.nextInt(Math.max(1, scale / 4)),
+            1 + random.nextInt(Math.max(1, scale / 4)), 1 + random.nextInt(5));
     }
 
     private int loanNumber() {
@@ -183,49 +195,65 @@ public final class ModelTest {
         return call(name, args);
     }
 
+    /** One sign for each argument of a method: what kind of number stands there. */
+    private static final Map<String, String> KINDS = Map.ofEntries(
+        Map.entry("appendText", "zzzzz"), Map.entry("truncateText", "i"), Map.entry("borrow", "bsqr"),
+        Map.entry("returnShares", "nw"), Map.entry("recall", "lsw"), Map.entry("passDays", "d"),
+        Map.entry("payDividend", "sa"), Map.entry("buyShares", "lsq"), Map.entry("sellShares", "lsq"),
+        Map.entry("setPrice", "sp"), Map.entry("setRate", "sr"), Map.entry("setLimit", "lh"),
+        Map.entry("setPolicy", "y"), Map.entry("count", "c"), Map.entry("security", "sy"),
+        Map.entry("lender", "ly"), Map.entry("credit", "b"), Map.entry("holding", "ls"),
+        Map.entry("onLoan", "ls"), Map.entry("available", "ls"), Map.entry("pooled", "s"),
+        Map.entry("utilization", "s"), Map.entry("exposure", "b"), Map.entry("account", "kl"),
+        Map.entry("openLoan", "i"), Map.entry("loan", "nc"), Map.entry("slice", "nly"),
+        Map.entry("dailyFee", "n"), Map.entry("recallable", "ls"), Map.entry("recallOrder", "lsy"),
+        Map.entry("returnOrder", "ni"), Map.entry("quote", "sql"), Map.entry("borrowable", "bs"),
+        Map.entry("wouldReplace", "lsw"), Map.entry("fewestLoans", "lsw"), Map.entry("tightestSum", "lsw"),
+        Map.entry("tightestLoans", "lsw"), Map.entry("accountAfter", "dkl"), Map.entry("boughtInAfter", "d"),
+        Map.entry("breakingPrice", "bs"), Map.entry("bestPolicy", "sq"), Map.entry("rankedLender", "sl"),
+        Map.entry("lastServed", "s"), Map.entry("total", "i"), Map.entry("reportByte", "i"));
+
     private int argument(String name, int place) {
-        if (random.nextInt(60) == 0) {
-            return among(-1, 0, 6, 400, 401, 10000, 100000, Integer.MIN_VALUE, Integer.MAX_VALUE, 99999, 9999);
+        if (random.nextInt(80) == 0) {
+            return among(-1, 0, 1, 6, 100, 101, 400, 401, 9999, 10000, 99999, 100000, Integer.MIN_VALUE, Integer.MAX_VALUE);
         }
-        switch (name) {
-            case "borrow":
-                return place < 2 ? random.nextInt(4) : place == 2 ? quantity() : random.nextInt(among(3, 9999));
-            case "returnShares":
-            case "loan":
-            case "slice":
-            case "dailyFee":
-            case "returnOrder":
-                return place == 0 ? loanNumber() : name.equals("returnShares") ? quantity() : random.nextInt(8);
-            case "recall":
-            case "wouldReplace":
-            case "fewestLoans":
-            case "tightestSum":
-            case "tightestLoans":
-            case "buyShares":
-            case "sellShares":
-                return place == 0 ? random.nextInt(6) : place == 1 ? random.nextInt(4) : quantity();
-            case "quote":
-                return place == 0 ? random.nextInt(4) : place == 1 ? quantity() : random.nextInt(6);
-            case "bestPolicy":
-                return place == 0 ? random.nextInt(4) : quantity();
-            case "passDays":
-            case "boughtInAfter":
+        switch (KINDS.get(name).charAt(place)) {
+            case 's':
+                return below(model.count(0));
+            case 'l':
+                return below(model.count(1));
+            case 'b':
+                return below(model.count(2));
+            case 'n':
+                return loanNumber();
+            case 'q':
+                return quantity();
+            case 'w':
+                return among(1 + random.nextInt(Math.max(1, scale / 10)), 1 + random.nextInt(Math.max(1, scale / 3)), quantity());
+            case 'd':
                 return 1 + random.nextInt(among(3, 40));
-            case "accountAfter":
-                return place == 0 ? random.nextInt(40) : random.nextInt(5);
-            case "setPrice":
-            case "setRate":
-            case "payDividend":
-                return place == 0 ? random.nextInt(4) : random.nextInt(among(10, 200, 10000));
-            case "setLimit":
-                return place == 0 ? random.nextInt(6) : random.nextInt(102);
-            case "reportByte":
-                return random.nextInt(60);
-            case "appendText":
-                return random.nextInt();
+            case 'r':
+                return random.nextInt(among(3, 100, 10000));
+            case 'a':
+            case 'p':
+                return random.nextInt(among(10, 10, 10, 10, 200, 10000));
+            case 'h':
+                return among(100, 100, random.nextInt(102));
+            case 'k':
+                return random.nextInt(among(2, 6));
+            case 'y':
+                return random.nextInt(among(3, 3, 3, 4));
+            case 'i':
+                return random.nextInt(among(3, 13));
+            case 'c':
+                return random.nextInt(10);
             default:
-                return random.nextInt(7);
+                return random.nextInt();
         }
+    }
+
+    private int below(int size) {
+        return size > 0 && random.nextInt(40) > 0 ? random.nextInt(size) : size;
     }
 
     private boolean call(String name, int... args) {
