@@ -929,7 +929,7 @@ public final class LendingPool {
             Arrays.fill(gives, 0);
             lastInTurn = NONE;
             if (policy == BY_PART) {
-                giveByPart(quantity);
+                giveByRest(giveParts(quantity));
             } else if (policy == BY_USE) {
                 orderByUse();
                 giveInOrder(quantity);
@@ -942,16 +942,13 @@ public final class LendingPool {
         void orderByUse() {
             for (int l = 0; l < lenders; l++) {
                 int place = l;
-                while (place > 0 && isLessUsed(l, order[place - 1])) {
+                while (place > 0
+                        && (long) lent[l] * whole[order[place - 1]] < (long) lent[order[place - 1]] * whole[l]) {
                     order[place] = order[place - 1];
                     place--;
                 }
                 order[place] = l;
             }
-        }
-
-        private boolean isLessUsed(int lender, int other) {
-            return (long) lent[lender] * whole[other] < (long) lent[other] * whole[lender];
         }
 
         private void orderByTurn(int last) {
@@ -979,32 +976,30 @@ public final class LendingPool {
             return last;
         }
 
-        private void giveByPart(int quantity) {
-            if (freeSum == 0) {
-                return;
-            }
+        /** Answers how many shares the truncated parts leave over. */
+        private int giveParts(int quantity) {
             int needed = quantity;
-            for (int l = 0; l < lenders; l++) {
+            for (int l = 0; l < lenders && freeSum > 0; l++) {
                 long product = (long) quantity * free[l];
                 gives[l] = (int) (product / freeSum);
                 rest[l] = product % freeSum;
                 needed -= gives[l];
             }
-            for (int turn = 0; turn < lenders && needed > 0; turn++) {
-                giveOneMore();
-                needed--;
-            }
+            return needed;
         }
 
-        private void giveOneMore() {
-            int greatest = 0;
-            for (int l = 1; l < lenders; l++) {
-                if (rest[l] > rest[greatest]) {
-                    greatest = l;
+        /** Fewer shares are left over than there are lenders with a rest, so no lender gives two of them. */
+        private void giveByRest(int needed) {
+            for (int turn = 0; turn < lenders && turn < needed; turn++) {
+                int greatest = 0;
+                for (int l = 1; l < lenders; l++) {
+                    if (rest[l] > rest[greatest]) {
+                        greatest = l;
+                    }
                 }
+                gives[greatest]++;
+                rest[greatest] = 0;
             }
-            gives[greatest]++;
-            rest[greatest] = NONE;
         }
 
         void bookInto(Pool pool, Loan loan) {

@@ -23,11 +23,13 @@ public final class ChangesTest {
         promise9Recall();
         promise9RecallByTurn();
         promise9RecallByPart();
+        promise9PartlyRecalled();
         promise9DueDays();
         promise9Refusals();
         promise10Fees();
         promise10NegativeFees();
         promise10BuyIns();
+        promise10BuyInsOfOneShare();
         promise10BuyInCloses();
         promise11PayDividend();
         promise12BuyShares();
@@ -107,6 +109,9 @@ public final class ChangesTest {
         x.borrow(0, 0, 30, 0);
         CHECK.due("at first lender 0", Check.shares(x, 0), "30 0 0");
         CHECK.due("last served", x.lastServed(0), 0);
+        x.borrow(0, 0, 51, 0);
+        CHECK.due("one share counts", x.lastServed(0), 2);
+        x.undo();
         x.borrow(0, 0, 60, 0);
         CHECK.due("behind lender 0", Check.shares(x, 1), "0 50 10");
         CHECK.due("last served", x.lastServed(0), 2);
@@ -260,6 +265,20 @@ public final class ChangesTest {
         CHECK.due("among the others alone", Check.shares(x, 1), "5 13 2");
     }
 
+    private static void promise9PartlyRecalled() {
+        LendingPool x = Check.pool("pool 3 0;security 1 0;lender 0 100 0;borrower 99;holding 0 0 30;");
+        x.borrow(0, 0, 10, 1);
+        x.borrow(0, 0, 20, 2);
+        x.recall(0, 0, 15);
+        CHECK.due("recalled of loan 1", x.loan(1, 5), 15);
+        x.recall(0, 0, 8);
+        CHECK.due("the rest of loan 1", x.loan(1, 5), 20);
+        CHECK.due("and 3 of loan 0", x.loan(0, 5), 3);
+        x.recall(0, 0, 7);
+        CHECK.due("all of loan 0", x.loan(0, 5), 10);
+        CHECK.due("the order stays", x.recallOrder(0, 0, 0), 1);
+    }
+
     private static void promise9DueDays() {
         LendingPool x = recalledFromAll();
         CHECK.due("a due day stays", x.slice(0, 2, 2), 2);
@@ -354,6 +373,24 @@ public final class ChangesTest {
         z.recall(0, 0, 3);
         CHECK.due("notice 0: bought in on the next day", z.passDays(1), 3);
         CHECK.due("3.75 is 3", Check.accounts(z), "0 -3 0 0 3");
+    }
+
+    private static void promise10BuyInsOfOneShare() {
+        LendingPool x = Check.pool("pool 0 50;security 2 0;lender 0 100 0;lender 0 100 0;borrower 99;borrower 99;holding 0 0 5;");
+        x.borrow(1, 0, 3, 0);
+        x.borrow(0, 0, 2, 0);
+        x.recall(0, 0, 1);
+        CHECK.due("one share", x.passDays(1), 1);
+        CHECK.due("accounts", Check.accounts(x), "0 0 0 -3 0 0 3");
+        CHECK.due("shares", Check.shares(x, 0), "2 0");
+        x.buyShares(1, 0, 1);
+        CHECK.due("one share is replaced", x.recall(0, 0, 2), 1);
+        CHECK.due("shares", Check.shares(x, 0), "1 1");
+        CHECK.due("recalled", x.slice(0, 0, 1), 1);
+        CHECK.due("one share", x.passDays(1), 1);
+        CHECK.due("accounts", Check.accounts(x), "0 -2 0 -6 0 0 8");
+        CHECK.due("shares", Check.shares(x, 0), "0 1");
+        CHECK.due("bought in so far", x.total(1), 2L);
     }
 
     private static void promise10BuyInCloses() {
@@ -496,6 +533,12 @@ public final class ChangesTest {
         CHECK.due("nothing is left", x.count(3) + x.count(4) + x.count(5), 0);
         CHECK.due("price", x.security(0, 0), 100);
         CHECK.due("accounts", Check.accounts(x), "0 0 0 0 0 0 0 0");
+        x.buyShares(1, 1, 8);
+        CHECK.due("other numbers", Check.orders(x, "borrow 0 1 4 7;borrow 1 0 30 8;recall 0 0 30;recall 1 1 3;recall 1 0 2;price 1 33;dividend 1 2;return 0 1;"), 8);
+        CHECK.due("report", Check.report(x), "day 0 loans 2\nloan 0 of 3 1:3-2\nloan 1 of 30 0:2 1:28\n");
+        CHECK.due("accounts", Check.accounts(x), "0 -392 0 -8 0 0 0 400");
+        CHECK.due("prices", x.security(0, 0) + x.security(1, 0), 133);
+        CHECK.due("undo", x.undo() + x.undo(), 1);
         CHECK.due("without tokens", Check.orders(x, ""), 0);
         CHECK.due("without tokens", Check.orders(x, " \n "), 0);
         CHECK.due("changes, too", x.undoDepth(), 2);
@@ -548,6 +591,8 @@ public final class ChangesTest {
         wrong("price 0 0;", 0);
         wrong("price 2 1;", 0);
         wrong("price 2 1", 9);
+        wrong("borrow 0 0 5 1;price 0 0;", 15);
+        wrong("borrow 0 0 5 1;recall 0 0 6;", 15);
         wrong("price 2 10000000;", 8);
         wrong("dividend 0 0;", 0);
         wrong("dividend 2 1;", 0);

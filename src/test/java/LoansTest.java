@@ -50,6 +50,9 @@ public final class LoansTest {
         for (int what = 0; what < due.length; what++) {
             CHECK.due("loan 1 " + what, x.loan(1, what), due[what]);
         }
+        LendingPool y = Check.pool(POOL);
+        y.borrow(0, 0, 101, 0);
+        CHECK.due("a slice of one share is one", y.loan(0, 7), 2);
         int[] other = {0, 0, 80, 1, 6, 0, NONE, 1};
         for (int what = 0; what < other.length; what++) {
             CHECK.due("loan 0 " + what, x.loan(0, what), other[what]);
@@ -86,6 +89,17 @@ public final class LoansTest {
         CHECK.due("a new loan in the place of a closed one", Check.shares(x, 2), "0 100 50");
         CHECK.due("has no recalled shares", x.loan(2, 5), 0);
         CHECK.due("has no due day", x.loan(2, 6), NONE);
+        x.recall(1, 0, 100);
+        x.undo();
+        x.undo();
+        x.borrow(0, 0, 150, 0);
+        CHECK.due("nor has one in the place of an undone one", Check.shares(x, 2) + "/" + x.loan(2, 5), "0 100 50/0");
+        x.undo();
+        CHECK.due("orders", Check.orders(x, "borrow 0 0 220 0;recall 1 0 60;"), 2);
+        CHECK.due("recalled", x.loan(2, 5), 60);
+        x.undo();
+        x.borrow(0, 0, 150, 0);
+        CHECK.due("nor after orders that were undone", Check.shares(x, 2) + "/" + x.loan(2, 5), "0 100 50/0");
     }
 
     private static void promise33DailyFee() {
@@ -133,6 +147,9 @@ public final class LoansTest {
         CHECK.index("no loan of lender 0", () -> x.recallOrder(0, 1, 0));
         CHECK.index("negative index", () -> x.recallOrder(0, 0, -1));
         CHECK.index("no lender", () -> x.recallOrder(3, 0, 0));
+        CHECK.index("no lender", () -> x.recallOrder(-1, 0, 0));
+        CHECK.index("no lender", () -> x.recallOrder(6, 0, 0));
+        CHECK.index("no security", () -> x.recallOrder(0, -1, 0));
         CHECK.index("no security", () -> x.recallOrder(0, 2, 0));
     }
 

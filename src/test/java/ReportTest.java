@@ -39,6 +39,9 @@ public final class ReportTest {
         CHECK.due("both 0.2", ranks(x, 0), "201");
         x.buyShares(1, 0, 1);
         CHECK.due("a little less", ranks(x, 0), "210");
+        LendingPool y = Check.pool("pool 0 0;security 1 0;lender 0 100 0;lender 0 100 0;borrower 99;holding 0 0 1;holding 1 0 10;");
+        y.borrow(0, 0, 7, 0);
+        CHECK.due("1 of 1, and 6 of 10", ranks(y, 0), "10");
         CHECK.index("no place", () -> x.rankedLender(0, 3));
         CHECK.index("no place", () -> x.rankedLender(0, -1));
         CHECK.index("no security", () -> x.rankedLender(2, 0));
@@ -100,6 +103,22 @@ public final class ReportTest {
         x.buyShares(0, 0, 10);
         CHECK.due("lenders paid 70", x.total(5), -37L);
         CHECK.argument("what 6", () -> x.total(6));
+        LendingPool y = Check.pool("pool 0 50;security 2 0;" + "lender 0 100 0;".repeat(6) + "borrower 999;borrower 999;"
+            + "holding 0 0 9;holding 5 0 9;");
+        y.borrow(1, 0, 9, 0);
+        y.borrow(0, 0, 9, 0);
+        y.recall(0, 0, 1);
+        y.recall(5, 0, 2);
+        CHECK.due("recalled of both loans", y.total(3), 3L);
+        CHECK.due("worth of both loans", y.total(4), 36L);
+        y.passDays(1);
+        y.recall(5, 0, 3);
+        CHECK.due("one comes from lender 0", y.total(2), 1L);
+        y.passDays(1);
+        CHECK.due("bought in on both days", y.total(1), 5L);
+        y.payDividend(0, 10);
+        CHECK.due("accounts", Check.accounts(y), "90 0 0 0 0 40 -62 -83 0 0 15");
+        CHECK.due("six lenders", y.total(5), 130L);
         CHECK.argument("what -1", () -> x.total(-1));
     }
 
@@ -118,6 +137,12 @@ public final class ReportTest {
         CHECK.due("a slice that is recalled whole", Check.report(x),
             "day 123 loans 2\nloan 0 of 160 0:100-30 1:50 2:10-10\nloan 2 of 35 2:35-35\n");
         CHECK.due("no change", x.undoDepth(), 7);
+        LendingPool y = Check.pool(POOL);
+        y.borrow(0, 0, 101, 0);
+        y.setLimit(1, 0);
+        y.setLimit(2, 0);
+        y.recall(0, 0, 1);
+        CHECK.due("one recalled share", Check.report(y), "day 0 loans 1\nloan 0 of 101 0:100-1 1:1\n");
     }
 
     private static void promise52LongReport() {

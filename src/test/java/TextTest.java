@@ -116,6 +116,7 @@ public final class TextTest {
         x.passDays(40);
         x.buyShares(0, 0, 3);
         x.payDividend(0, 3);
+        CHECK.due("a look ahead", x.accountAfter(3, 4, 0) != 0, true);
         CHECK.due("wrong text keeps changes", Check.parse(x, "pool"), NONE);
         CHECK.due("undoDepth", x.undoDepth(), 6);
         CHECK.due("new pool", Check.parse(x, "pool 3 4;security 20 0;lender 0 0 0;borrower 1;"), 4);
@@ -164,6 +165,10 @@ public final class TextTest {
         wrong("poo 1 2;", 1, 0);
         wrong("x security 1 1;", 1, 0);
         wrong("Pool 1 2;", 1, 0);
+        wrong("xool 1 2;", 1, 0);
+        wrong("poox 1 2;", 1, 0);
+        wrong("poolz 1 2;", 1, 0);
+        wrong("poola 1 2;", 1, 0);
         wrong("poolX 1 2;", 1, 4);
         wrong("pool\t1 2;", 1, 4);
         wrong("pool 1\r2;", 1, 6);

@@ -31,6 +31,9 @@ public final class ThoughtTest {
         CHECK.due("by part", quotes(x, 7), "3 2 2");
         CHECK.due("by part", quotes(x, 2), "1 1 0");
         CHECK.due("all", quotes(x, 200), "100 50 50");
+        LendingPool y = Check.pool("pool 0 0;security 1 0;lender 0 100 0;lender 0 100 0;borrower 99;holding 1 0 1;");
+        y.setPolicy(1);
+        CHECK.due("the only share", y.quote(0, 1, 0) + " " + y.quote(0, 1, 1), "0 1");
         x.setPolicy(2);
         CHECK.due("by turn", quotes(x, 110), "100 10 0");
         CHECK.due("nobody was served", x.lastServed(0), LendingPool.NONE);
@@ -68,6 +71,11 @@ public final class ThoughtTest {
         LendingPool y = Check.pool("pool 0 0;security 1 0;lender 0 100 0;lender 0 100 0;borrower 9999999;"
             + "holding 0 0 99999;holding 1 0 99999;");
         CHECK.due("a quantity has its limit", y.borrowable(0, 0), 99999);
+        LendingPool z = Check.pool("pool 0 0;security 1 0;lender 0 100 0;borrower 3;holding 0 0 9;");
+        z.borrow(0, 0, 2, 0);
+        CHECK.due("room for one", z.borrowable(0, 0), 1);
+        z.borrow(0, 0, 1, 0);
+        CHECK.due("room for none", z.borrowable(0, 0), 0);
     }
 
     private static void promise38BorrowableFull() {
@@ -137,8 +145,8 @@ public final class ThoughtTest {
     }
 
     private static void tightest(LendingPool x, int quantity, int sum, int set) {
-        CHECK.due("tightestSum " + quantity, x.tightestSum(0, 0, quantity), sum);
         CHECK.due("tightestLoans " + quantity, x.tightestLoans(0, 0, quantity), set);
+        CHECK.due("tightestSum " + quantity, x.tightestSum(0, 0, quantity), sum);
     }
 
     private static void promise41And42Tightest() {
@@ -185,6 +193,10 @@ public final class ThoughtTest {
         LendingPool z = loansOf(3, 3, 6, 6);
         tightest(z, 6, 6, 4);
         tightest(z, 9, 9, 5);
+        LendingPool w = loansOf(1, 2, 3, 4);
+        tightest(w, 5, 5, 6);
+        tightest(w, 8, 8, 13);
+        tightest(w, 6, 6, 10);
     }
 
     private static void promise43AccountAfter() {
@@ -252,8 +264,18 @@ public final class ThoughtTest {
         y.borrow(0, 0, 2, 0);
         y.borrow(0, 0, 2, 9);
         CHECK.element("nothing is recalled", () -> y.firstBuyIn());
-        y.recall(0, 0, 1);
+        y.recall(0, 0, 2);
         CHECK.due("notice 30", y.firstBuyIn(), 31);
+        y.passDays(4);
+        y.recall(0, 0, 1);
+        CHECK.due("loan 1 is due first, then loan 0", y.firstBuyIn(), 27);
+        y.returnShares(1, 2);
+        CHECK.due("loan 0 alone", y.firstBuyIn(), 31);
+        y.borrow(0, 0, 1, 5);
+        CHECK.due("loan 2 is not recalled", y.firstBuyIn(), 31);
+        y.passDays(2);
+        y.recall(0, 0, 1);
+        CHECK.due("loan 0 is due first, then loan 2", y.firstBuyIn(), 29);
     }
 
     private static void promise46BreakingPrice() {

@@ -66,15 +66,18 @@ public final class UndoTest {
         undone(y, "runOrders without orders", () -> y.runOrders());
         undone(y, "a change of nothing", () -> y.setLimit(1, 7));
         LendingPool z = Check.pool(POOL);
-        z.borrow(0, 0, 5, 0);
-        z.borrow(0, 0, 6, 0);
-        z.borrow(0, 0, 7, 0);
+        z.buyShares(2, 1, 6);
+        z.borrow(0, 0, 5, 3);
+        z.passDays(1);
+        z.borrow(1, 1, 6, 4);
+        z.passDays(1);
+        z.borrow(0, 0, 7, 5);
         undone(z, "a closing in the middle", () -> z.returnShares(1, 6));
         undone(z, "another one", () -> z.returnShares(0, 5));
         z.undo();
         z.undo();
         z.undo();
-        CHECK.due("back to two loans", Check.report(z), "day 0 loans 2\nloan 0 of 5 0:5\nloan 1 of 6 1:6\n");
+        CHECK.due("back to two loans", Check.report(z), "day 2 loans 2\nloan 0 of 5 0:5\nloan 1 of 6 2:6\n");
         CHECK.due("the number is free again", z.borrow(0, 0, 1, 0), 2);
     }
 
