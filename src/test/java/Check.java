@@ -95,6 +95,20 @@ final class Check {
         return text.toString();
     }
 
+    /** A long report, of which each of several pools that are alike tells a part, for none may be asked more than 512 times. */
+    static String longReport(Make make) {
+        StringBuilder text = new StringBuilder();
+        int length = make.pool().writeReport();
+        for (int from = 0; from < length; from += 400) {
+            LendingPool x = make.pool();
+            x.writeReport();
+            for (int i = from; i < Math.min(length, from + 400); i++) {
+                text.append((char) x.reportByte(i));
+            }
+        }
+        return text.toString();
+    }
+
     /** The shares of a loan, lender by lender. */
     static String shares(LendingPool pool, int loan) {
         StringBuilder text = new StringBuilder();

@@ -7,14 +7,6 @@ abstract class Edge {
     static final int LOW = Integer.MIN_VALUE;
     static final int HIGH = Integer.MAX_VALUE;
 
-    interface Make {
-        LendingPool pool();
-    }
-
-    interface Use {
-        Object on(LendingPool x);
-    }
-
     /** Available of security 0: 100, 50 and 50; of security 1 nothing. */
     static final String SMALL = "pool 2 10;security 100 3600;security 50 0;lender 50 100 15;lender 100 50 0;"
         + "lender 33 100 100;borrower 1000000;borrower 5000;holding 0 0 100;holding 1 0 100;holding 2 0 50;";

@@ -216,6 +216,39 @@ final class EdgesOfRules extends Edge {
         argument(Edge::busy, y -> y.borrow(0, 0, 1, -1), y -> y.borrow(0, 0, 1, 10000));
     }
 
+    @Says(at = "Section 1", words = "the day on which it was made, and slices")
+    static void section1_aLoanHasNothingOfAnOldOne() {
+        // Loan 0 of borrower 1 in security 1, with recalled shares, is closed, undone and closed again.
+        LendingPool x = small();
+        x.buyShares(2, 1, 10);
+        x.borrow(1, 1, 10, 77);
+        x.recall(2, 1, 4);
+        x.passDays(2);
+        String before = Look.state(x);
+        x.returnShares(0, 10);
+        x.borrow(0, 0, 101, 5);
+        due(x.loan(1, 0) + " " + x.loan(1, 1) + " " + x.loan(1, 3) + " " + x.loan(1, 4), "0 0 5 2");
+        due(slices(x, 1) + " due " + x.loan(1, 6), "100-0 1-0 0-0 due -1");
+        x.undo();
+        x.undo();
+        due(Look.state(x), before);
+        due(x.loan(0, 0) + " " + x.loan(0, 1) + " " + x.loan(0, 3) + " " + x.loan(0, 4), "1 1 77 0");
+        due(slices(x, 0) + " due " + x.loan(0, 6), "0-0 0-0 10-4 due 2");
+        LendingPool y = small();
+        y.borrow(0, 0, 200, 0);
+        y.recall(0, 0, 50);
+        y.undo();
+        y.undo();
+        y.borrow(1, 0, 7, 3);
+        due(slices(y, 0) + " due " + y.loan(0, 6), "7-0 0-0 0-0 due -1");
+        y.undo();
+        due(Check.orders(y, "borrow 0 0 200 0;recall 0 0 50;"), 2);
+        due(slices(y, 0) + " due " + y.loan(0, 6), "100-50 50-0 50-0 due 2");
+        y.undo();
+        y.borrow(1, 0, 50, 3);
+        due(slices(y, 0) + " due " + y.loan(0, 6), "50-0 0-0 0-0 due -1");
+    }
+
     @Says(at = "Section 1", words = "a slice is a number of shares of one lender, above 0")
     static void section1_sliceAbove0() {
         LendingPool x = small();
@@ -296,6 +329,15 @@ final class EdgesOfRules extends Edge {
         }
         due(outcome(y, z -> z.borrow(0, 0, 101, 0)), IllegalStateException.class);
         due(y.borrow(0, 0, 100, 0), 1);
+        // A lender that has lent one share too many takes nothing from what the others have, with any policy.
+        for (int policy = 0; policy <= 2; policy++) {
+            LendingPool z = held(10, 10, 10);
+            z.borrow(0, 0, 6, 0);
+            z.setLimit(0, 50);
+            z.setPolicy(policy);
+            due(z.available(0, 0) + " " + z.quote(0, 20, 0) + " " + z.quote(0, 20, 1) + " " + z.quote(0, 20, 2), "0 0 10 10");
+            due(z.recall(0, 0, 6) + " " + z.pooled(0), "6 19");
+        }
     }
 
     // ---- section 2
@@ -334,6 +376,11 @@ final class EdgesOfRules extends Edge {
         // 99997/99998 is below 99998/99999 by one part in 9999700002.
         y.borrow(0, 0, 1, 0);
         due(Check.shares(y, 2) + ", " + Check.shares(y, 3), "1 0, 1 0");
+        // 1/1 is above 3/4.
+        LendingPool z = held(1, 4);
+        z.borrow(0, 0, 1, 0);
+        z.borrow(0, 0, 3, 0);
+        due(z.rankedLender(0, 0) + " " + z.rankedLender(0, 1), "1 0");
     }
 
     @Says(at = "Section 2", words = "each one in turn gives as many shares as it has available, but not more than are still needed")
@@ -465,6 +512,16 @@ final class EdgesOfRules extends Edge {
         due(Check.shares(y, 0), "50 59");
         y.returnShares(0, 60);
         due(Check.shares(y, 0), "49 0");
+        // Six slices with one recalled share and another one each are returned in twelve steps, all but the last.
+        LendingPool z = held(2, 2, 2, 2, 2, 2);
+        z.borrow(0, 0, 12, 0);
+        for (int l = 0; l < 6; l++) {
+            z.recall(l, 0, 1);
+        }
+        due(z.returnShares(0, 11), 1);
+        due(slices(z, 0), "0-0 0-0 0-0 0-0 0-0 1-0");
+        z.undo();
+        due(z.returnShares(0, 12) + " " + z.count(3), "0 0");
     }
 
     @Says(at = "Section 3", words = "A recalled share that is returned is not recalled any more. A slice without recalled shares has"

@@ -110,6 +110,23 @@ final class EdgesOfTexts extends Edge {
         due(y.parsePool() + " " + y.count(7) + " " + y.count(8), "1 3 4");
     }
 
+    @Says(at = "Promise 3", words = "Truncates the text buffer to its first characters.")
+    static void promise3_firstCharacters() {
+        LendingPool x = new LendingPool();
+        Check.write(x, "pool 1 23;security 5 6;");
+        due(x.truncateText(10), 10);
+        due(x.parsePool() + " " + x.count(7) + " " + x.count(8), "1 1 23");
+        Check.write(x, "pool 1 23;");
+        x.truncateText(8);
+        // Now a semicolon stands where the 3 stood.
+        due(x.appendText(0x3b202020, BLANKS, BLANKS, BLANKS, BLANKS), 28);
+        due(x.parsePool() + " " + x.count(8), "1 2");
+        Check.write(x, "pool 1 23;");
+        x.truncateText(8);
+        x.parsePool();
+        due(x.errorCode() + " at " + x.errorPosition(), "1 at 8");
+    }
+
     @Says(at = "Promise 3", words = "Throws `IllegalArgumentException` if length is negative or above the present length")
     static void promise3_negativeOrAbove() {
         answers(0, Edge::empty, x -> x.truncateText(0));
@@ -125,6 +142,29 @@ final class EdgesOfTexts extends Edge {
         due(outcome(x, y -> y.truncateText(600)), IllegalArgumentException.class);
         due(x.truncateText(0), 0);
         due(outcome(x, y -> y.truncateText(1)), IllegalArgumentException.class);
+    }
+
+    @Says(at = "Promise 4", words = "If it is correct, the new pool replaces the present one.")
+    static void promise4_theNewPoolReplacesAll() {
+        String fresh = Look.state(small());
+        LendingPool x = busy();
+        x.truncateText(0);
+        x.setPolicy(2);
+        x.borrow(1, 0, 50, 9);
+        x.payDividend(0, 3);
+        x.buyShares(2, 1, 7);
+        x.passDays(9);
+        x.recall(2, 0, 1);
+        // A look ahead and a refused text leave nothing behind for the new pool, either.
+        x.accountAfter(400, 2, 0);
+        Check.parse(x, "pool 9 9;security 9 9;lender 9 9 9;holding 0 0 9;x");
+        due(Check.parse(x, SMALL), 11);
+        due(Look.state(x), fresh);
+        due(x.undoDepth(), 0);
+        LendingPool y = full();
+        y.accountAfter(400, 2, 0);
+        due(Check.parse(y, "pool 1 1;security 5 5;lender 1 100 1;borrower 9;"), 4);
+        due(Look.state(y), Look.state(right("pool 1 1;security 5 5;lender 1 100 1;borrower 9;", 4)));
     }
 
     @Says(at = "Promise 4", words = "The buffer is empty afterwards in every case.")
@@ -218,6 +258,9 @@ final class EdgesOfTexts extends Edge {
         wrong("pool 0 0;az", 1, 9);
         // Of one word with letters before or behind it the first byte counts, of two tokens the second one.
         wrong("apool 0 0;", 1, 0);
+        wrong("xool 0 0;", 1, 0);
+        wrong("poox 0 0;", 1, 0);
+        wrong("poo 0 0;", 1, 0);
         wrong("poolz 0 0;", 1, 0);
         wrong("pool 0 0;securityz 1 1;", 1, 9);
         wrong("pool`0 0;", 1, 4);
@@ -365,6 +408,34 @@ final class EdgesOfTexts extends Edge {
     }
 
     // ---- section 5, order texts, and promise 18
+
+    /** An order does what the method does of which the document says that it is as it. */
+    private static void order(String text, Use call) {
+        LendingPool x = full();
+        due(x.returnShares(10, 50), 0);
+        due(Check.orders(x, text), 1);
+        LendingPool y = full();
+        y.returnShares(10, 50);
+        call.on(y);
+        due(Look.state(x), Look.state(y));
+    }
+
+    @Says(at = "Section 5", words = "executes each order when its semicolon has been read: \"borrow B S Q R\" (as borrow), \"return L Q\" (as"
+        + " returnShares), \"recall L S Q\" (as recall), \"pass N\" (as passDays), \"price S P\" (as setPrice) and \"dividend S A\" (as"
+        + " payDividend)")
+    static void section5_ordersAreAsTheMethods() {
+        order("borrow 3 0 50 7;", x -> x.borrow(3, 0, 50, 7));
+        order("borrow 2 0 100 9999;", x -> x.borrow(2, 0, 100, 9999));
+        order("return 3 2;", x -> x.returnShares(3, 2));
+        order("return 11 70;", x -> x.returnShares(11, 70));
+        order("recall 5 3 8;", x -> x.recall(5, 3, 8));
+        order("recall 1 0 99;", x -> x.recall(1, 0, 99));
+        order("pass 400;", x -> x.passDays(400));
+        order("price 3 2;", x -> x.setPrice(3, 2));
+        order("price 0 9999;", x -> x.setPrice(0, 9999));
+        order("dividend 3 2;", x -> x.payDividend(3, 2));
+        order("dividend 0 9999;", x -> x.payDividend(0, 9999));
+    }
 
     @Says(at = "Section 5", words = "The text is wrong at the first byte of a token that cannot stand where it stands (also a number of more"
         + " than seven digits, an unknown word, and a byte that begins no token)")

@@ -235,6 +235,27 @@ final class EdgesOfThePool extends Edge {
         due(Check.accounts(x), "44 54 0 -161 0 5 58 0");
     }
 
+    @Says(at = "Promise 29", words = "`number`: number of the lender or borrower; 0 for the other kinds")
+    static void promise29_everyAccount() {
+        LendingPool x = full();
+        x.setPrice(0, 7200);
+        x.setRate(0, 1000);
+        x.passDays(1);
+        // Loan i of 0 to 10 brings 100 - i, of which lender i % 6 gets 10, 20, .. or 60 percent; loan 11 brings 0.
+        due(Check.accounts(x), "19 37 56 74 93 57 -288 -285 -282 -190 709 0 0");
+        // 70 shares of lender 5, whose tax is 6 percent, on loan to borrower 3.
+        x.payDividend(3, 100);
+        due(Check.accounts(x), "19 37 56 74 93 6637 -288 -285 -282 -7190 709 420 0");
+        x.buyShares(5, 3, 1);
+        due(x.account(0, 5) + " " + x.account(4, 0) + " " + x.total(5), "6623 14 6902");
+        x.setRate(0, 100);
+        x.setPrice(0, 1);
+        x.recall(5, 3, 70);
+        // All fees are 0 now; 70 * 14 * 120 / 100 is 1176.
+        due(x.passDays(5) + " " + x.passDays(1), "0 70");
+        due(x.account(1, 3) + " " + x.account(4, 0), "-8366 1190");
+    }
+
     @Says(at = "Promise 29", words = "Throws `IllegalArgumentException` if there is no such account")
     static void promise29_noSuchAccount() {
         answers(0, Edge::busy, x -> x.account(0, 2));

@@ -121,6 +121,31 @@ final class EdgesOfTheRest extends Edge {
         index(Edge::full, x -> x.lastServed(4));
     }
 
+    @Says(at = "Promise 51", words = "0: the sum of all fees so far; 1: shares bought in so far; 2: shares replaced by recalls so far; 3: shares"
+        + " recalled now; 4: the sum of quantity * price of all open loans; 5: the sum of all balances of the lenders")
+    static void promise51_soFarAndNow() {
+        LendingPool x = busy();
+        // Fees: 11 on each of two days, and 10 on the third, after 10 shares were bought in.
+        x.passDays(2);
+        x.passDays(1);
+        due(x.total(0) + " " + x.total(1) + " " + x.total(2) + " " + x.total(3), "43 10 50 0");
+        // Lender 0 has 60 available and replaces 50 of lender 1; then they have 10 and 50 and replace 50 of lender 2.
+        due(x.recall(1, 0, 50) + " " + x.recall(2, 0, 50), "50 50");
+        due(x.total(2) + " " + x.total(3) + " " + x.total(4), "150 0 14000");
+        x.undo();
+        due(x.total(2) + " " + x.total(3), "100 0");
+        // Lender 1 has 50 available, lender 2 none.
+        x.recall(0, 0, 90);
+        due(x.total(2) + " " + x.total(3), "150 40");
+        due(x.passDays(3) + " " + x.total(1), "40 50");
+        due(x.total(4), 10000);
+        x.setPrice(0, 1);
+        due(x.total(4), 100);
+        x.undo();
+        x.undo();
+        due(x.total(1) + " " + x.total(3), "10 40");
+    }
+
     @Says(at = "Promise 51", words = "Throws `IllegalArgumentException` if what is not 0 to 5")
     static void promise51_what0To5() {
         long[] inBusy = {11, 0, 50, 10, 15000, 6};
@@ -160,6 +185,12 @@ final class EdgesOfTheRest extends Edge {
         due(Check.report(x), "day 0 loans 1\nloan 0 of 15 0:10-1 2:5-5\n");
         x.returnShares(0, 6);
         due(Check.report(x), "day 0 loans 1\nloan 0 of 9 0:9\n");
+        x.returnShares(0, 8);
+        due(Check.report(x), "day 0 loans 1\nloan 0 of 1 0:1\n");
+        // Lender 2 has five shares again, but lends none of them: the only share of lender 0 is recalled.
+        x.setLimit(2, 0);
+        x.recall(0, 0, 1);
+        due(Check.report(x), "day 0 loans 1\nloan 0 of 1 0:1-1\n");
     }
 
     @Says(at = "Promise 52", words = "Then follows one line for each open loan by ascending number")

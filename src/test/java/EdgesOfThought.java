@@ -21,6 +21,24 @@ final class EdgesOfThought extends Edge {
 
     // ---- promise 37
 
+    @Says(at = "Promise 37", words = "Returns how many shares a lender would give if shares of a security were allocated now.")
+    static void promise37_asAnAllocationNow() {
+        String[] shares = {"7 0 0", "3 2 2", "7 0 0"};
+        for (int policy = 0; policy <= 2; policy++) {
+            LendingPool x = small();
+            x.setPolicy(policy);
+            String quotes = x.quote(0, 7, 0) + " " + x.quote(0, 7, 1) + " " + x.quote(0, 7, 2);
+            x.borrow(0, 0, 7, 0);
+            // 3.5, 1.75 and 1.75 with policy 1.
+            due(quotes + ", " + Check.shares(x, 0), shares[policy] + ", " + shares[policy]);
+        }
+        LendingPool y = small();
+        y.setPolicy(2);
+        y.borrow(0, 0, 1, 0);
+        due(y.quote(0, 51, 0) + " " + y.quote(0, 51, 1) + " " + y.quote(0, 51, 2), "0 50 1");
+        due(y.quote(0, 199, 0) + " " + y.quote(0, 199, 1) + " " + y.quote(0, 199, 2), "99 50 50");
+    }
+
     @Says(at = "Promise 37", words = "`quantity`: 1 to 99999")
     static void promise37_quantity() {
         answers(1, Edge::wide, x -> x.quote(0, 1, 0));
@@ -89,6 +107,11 @@ final class EdgesOfThought extends Edge {
         z.returnShares(0, 50);
         // Lenders 0 and 5 have 50 each.
         borrowable(100, z, 0, 0);
+        // One of the credit is left, and then none.
+        LendingPool w = Check.pool("pool 0 0;security 1 0;lender 0 100 0;borrower 3;holding 0 0 9;");
+        w.borrow(0, 0, 2, 0);
+        borrowable(1, w, 0, 0);
+        borrowable(0, w, 0, 0);
     }
 
     @Says(at = "Promise 38", words = "Returns 0 if there is none.")
@@ -104,6 +127,9 @@ final class EdgesOfThought extends Edge {
         borrowable(0, y, 1, 0);
         y.setPrice(0, 101);
         borrowable(0, y, 1, 0);
+        y.setPrice(0, 9999);
+        borrowable(0, y, 1, 0);
+        y.setPrice(0, 101);
         borrowable(150, y, 0, 0);
         borrowable(0, y, 0, 0);
         borrowable(0, Check.pool("pool 0 0;security 1 0;lender 0 100 0;borrower 0;holding 0 0 9;"), 0, 0);
@@ -378,6 +404,31 @@ final class EdgesOfThought extends Edge {
         return x;
     }
 
+    @Says(at = "Promise 45", words = "Returns after how many days shares would be bought in first.")
+    static void promise45_first() {
+        // Loan 1, with the greater rebate, is recalled on day 0 and loan 0 on day 1; then it is the other way round.
+        int[][] rebates = {{0, 9}, {9, 0}};
+        for (int[] rebate : rebates) {
+            LendingPool x = lone(2, 0);
+            x.borrow(0, 0, 10, rebate[0]);
+            x.borrow(0, 0, 10, rebate[1]);
+            x.recall(0, 0, 10);
+            due(x.firstBuyIn(), 3);
+            x.passDays(1);
+            x.recall(0, 0, 10);
+            due(x.firstBuyIn(), 2);
+            due(x.passDays(2) + " " + x.firstBuyIn(), "10 1");
+            due(x.passDays(1), 10);
+        }
+        LendingPool y = held(5, 5);
+        y.borrow(0, 0, 10, 0);
+        y.recall(1, 0, 5);
+        y.passDays(1);
+        y.recall(0, 0, 5);
+        // Of one loan, lender 1 is due on day 2 and lender 0 on day 3.
+        due(y.firstBuyIn(), 2);
+    }
+
     @Says(at = "Promise 45", words = "Returns 1 or more.")
     static void promise45_1OrMore() {
         answers(1, () -> recalledUnder(0), x -> x.firstBuyIn());
@@ -457,6 +508,14 @@ final class EdgesOfThought extends Edge {
         due(outcome(x, y -> y.breakingPrice(1, 1)), java.util.NoSuchElementException.class);
         x.setPrice(0, 101);
         due(x.breakingPrice(1, 1), 1);
+        LendingPool z = Check.pool("pool 0 0;security 1 0;security 1 0;lender 0 100 0;borrower 7;holding 0 0 9;");
+        z.borrow(0, 0, 1, 0);
+        z.setPrice(0, 7);
+        due(outcome(z, y -> y.breakingPrice(0, 1)), java.util.NoSuchElementException.class);
+        // Now security 0 alone is above the credit, by one.
+        z.setPrice(0, 8);
+        due(z.breakingPrice(0, 1), 1);
+        due(z.breakingPrice(0, 0), 8);
     }
 
     // ---- promise 47
@@ -505,6 +564,23 @@ final class EdgesOfThought extends Edge {
         // A lender without a holding has 0 on loan afterwards, whatever the policy is: 4 and 0, 2 and 2, each with a 0.
         answers(1, () -> held(4, 4, 0), x -> x.bestPolicy(0, 4));
         answers(0, () -> held(0, 0, 0, 0, 0, 7), x -> x.bestPolicy(0, 7));
+        // Lender 1 has 6 of 8 on loan, lender 0 has 1 of 2 and one available: it is lender 1 that has the most afterwards.
+        LendingPool y = held(2, 8);
+        y.setPolicy(2);
+        y.borrow(0, 0, 1, 0);
+        y.borrow(0, 0, 6, 0);
+        // All policies give one of each (2 and 7).
+        due(y.bestPolicy(0, 2), 0);
+        // Policies 0 and 2 give one of lender 0 (2 and 6), policy 1 gives one of lender 1 (1 and 7).
+        due(y.bestPolicy(0, 1), 0);
+        // Lender 0 has 5 of 5 on loan. Policies 0 and 2 give 4 of lender 1 (5, 4 and 0), policy 1 gives 2 of each (5, 2 and 2).
+        LendingPool z = held(5, 8, 8);
+        z.borrow(0, 0, 5, 0);
+        due(z.bestPolicy(0, 4), 1);
+        // Policy 0 gives 9: 8 and 1 (5, 8 and 1); policy 1 gives 5 and 4 (5, 5 and 4).
+        due(z.bestPolicy(0, 9), 1);
+        // Policy 0 gives 8 and 5 (5, 8 and 5), policy 1 gives 7 and 6 (5, 7 and 6).
+        due(z.bestPolicy(0, 13), 1);
         answers(0, Edge::full, x -> x.bestPolicy(0, 50));
     }
 

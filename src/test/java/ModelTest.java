@@ -10,13 +10,14 @@ import java.util.Random;
 /** Runs of calls drawn from a fixed seed: the class must answer as the literal model does, in every promise. */
 public final class ModelTest {
     private static final int RUNS = 400;
-    private static final int CALLS = 480;
+    private static final int CALLS = 512;
 
     private final Random random;
     private final LendingPool real = new LendingPool();
     private final NaivePool model = new NaivePool();
     private final List<String> told = new ArrayList<>();
     private final int scale;
+    private int calls;
 
     private ModelTest(long seed) {
         random = new Random(seed);
@@ -54,9 +55,7 @@ public final class ModelTest {
 
     private boolean run() {
         boolean good = random.nextInt(20) == 0 || text(poolText(), "parsePool");
-        int calls = 0;
         while (good && calls < CALLS) {
-            calls++;
             int kind = random.nextInt(200);
             if (kind == 0) {
                 good = text(poolText(), "parsePool");
@@ -256,7 +255,12 @@ public final class ModelTest {
         return size > 0 && random.nextInt(40) > 0 ? random.nextInt(size) : size;
     }
 
+    /** What an object answers after its last call is free, and so it is not asked. */
     private boolean call(String name, int... args) {
+        if (calls == CALLS) {
+            return true;
+        }
+        calls++;
         Object got = answer(real, name, args);
         Object want = answer(model, name, args);
         StringBuilder line = new StringBuilder(name);

@@ -145,31 +145,37 @@ public final class ReportTest {
         CHECK.due("one recalled share", Check.report(y), "day 0 loans 1\nloan 0 of 101 0:100-1 1:1\n");
     }
 
-    private static void promise52LongReport() {
-        String lenders = "lender 0 100 0;".repeat(6);
+    /** Six lenders with 8333 shares in each of twelve loans, all of them recalled. */
+    private static LendingPool allRecalled() {
         StringBuilder holdings = new StringBuilder();
         for (int l = 0; l < 6; l++) {
             holdings.append("holding ").append(l).append(" 0 99999;");
         }
-        LendingPool x = Check.pool("pool 30 0;security 1 0;" + lenders + "borrower 9999999;" + holdings);
+        LendingPool x = Check.pool("pool 30 0;security 1 0;" + "lender 0 100 0;".repeat(6) + "borrower 9999999;" + holdings);
         x.setPolicy(1);
-        StringBuilder due = new StringBuilder("day 0 loans 12\n");
         for (int i = 0; i < 12; i++) {
-            x.borrow(0, 0, i == 11 ? 49998 : 49996 + i % 2 * 4, 0);
+            x.borrow(0, 0, 49998, 0);
         }
         for (int l = 0; l < 6; l++) {
-            CHECK.due("all of lender " + l, x.onLoan(l, 0) > 99990, true);
-            x.recall(l, 0, x.recallable(l, 0));
+            x.setLimit(l, 0);
         }
+        for (int l = 0; l < 6; l++) {
+            x.recall(l, 0, 99996);
+        }
+        return x;
+    }
+
+    private static void promise52LongReport() {
+        StringBuilder due = new StringBuilder("day 0 loans 12\n");
         for (int i = 0; i < 12; i++) {
-            due.append("loan ").append(i).append(" of ").append(x.loan(i, 2));
+            due.append("loan ").append(i).append(" of 49998");
             for (int l = 0; l < 6; l++) {
-                due.append(' ').append(l).append(':').append(x.slice(i, l, 0));
-                due.append(x.slice(i, l, 1) > 0 ? "-" + x.slice(i, l, 1) : "");
+                due.append(' ').append(l).append(":8333-8333");
             }
             due.append('\n');
         }
-        CHECK.due("the whole report", Check.report(x), due.toString());
+        CHECK.due("its length", allRecalled().writeReport(), due.length());
+        CHECK.due("the whole report", Check.longReport(ReportTest::allRecalled), due.toString());
     }
 
     private static void promise53ReportByte() {

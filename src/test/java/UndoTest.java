@@ -12,59 +12,48 @@ public final class UndoTest {
         CHECK.end();
     }
 
-    /** All that a pool tells and that a change could have touched. */
-    private static String all(LendingPool x) {
-        StringBuilder text = new StringBuilder(Check.report(x)).append(Check.accounts(x));
-        for (int what = 0; what <= 8; what++) {
-            text.append(" ").append(x.count(what));
-        }
-        for (int what = 0; what <= 5; what++) {
-            text.append(" ").append(x.total(what));
-        }
-        for (int s = 0; s < x.count(0); s++) {
-            text.append("\n").append(x.security(s, 0)).append(" ").append(x.security(s, 1)).append(" ").append(x.lastServed(s));
-            for (int l = 0; l < x.count(1); l++) {
-                text.append(" ").append(x.holding(l, s)).append("/").append(x.available(l, s));
+    /** Each of the changes is undone on a pool of its own, on which the ones before it were made. */
+    private static void undone(Make start, String[] names, Use... changes) {
+        for (int i = 0; i < changes.length; i++) {
+            LendingPool x = start.pool();
+            for (int before = 0; before < i; before++) {
+                changes[before].on(x);
             }
+            String before = Look.state(x);
+            int depth = x.undoDepth();
+            changes[i].on(x);
+            CHECK.due(names[i] + " is a change", x.undoDepth(), depth + 1);
+            String after = Look.state(x);
+            CHECK.due("undo of " + names[i], x.undo(), depth);
+            CHECK.due("the state before " + names[i], Look.state(x), before);
+            changes[i].on(x);
+            CHECK.due(names[i] + " once more", Look.state(x), after);
         }
-        for (int i = 0; i < x.count(3); i++) {
-            for (int what = 0; what < 8; what++) {
-                text.append(" ").append(x.loan(x.openLoan(i), what));
-            }
-        }
-        return text.toString();
-    }
-
-    private static void undone(LendingPool x, String what, Check.Call change) {
-        String before = all(x);
-        int depth = x.undoDepth();
-        change.answer();
-        CHECK.due(what + " is a change", x.undoDepth(), depth + 1);
-        String after = all(x);
-        CHECK.due("undo of " + what, x.undo(), depth);
-        CHECK.due("the state before " + what, all(x), before);
-        change.answer();
-        CHECK.due(what + " once more", all(x), after);
     }
 
     private static void promise54EachChange() {
-        LendingPool x = Check.pool(POOL);
-        CHECK.state("nothing to undo", () -> x.undo());
-        undone(x, "setPolicy", () -> x.setPolicy(2));
-        undone(x, "borrow", () -> x.borrow(0, 0, 160, 9));
-        undone(x, "recall", () -> x.recall(0, 0, 60));
-        undone(x, "passDays", () -> x.passDays(4));
-        undone(x, "payDividend", () -> x.payDividend(0, 7));
-        undone(x, "buyShares", () -> x.buyShares(0, 1, 7));
-        undone(x, "sellShares", () -> x.sellShares(0, 1, 3));
-        undone(x, "returnShares", () -> x.returnShares(0, 140));
-        LendingPool y = Check.pool(POOL);
-        undone(y, "setPrice", () -> y.setPrice(1, 7));
-        undone(y, "setRate", () -> y.setRate(1, 7));
-        undone(y, "setLimit", () -> y.setLimit(1, 7));
-        undone(y, "runOrders", () -> Check.orders(y, "borrow 0 0 9 9;pass 9;price 0 7;"));
-        undone(y, "runOrders without orders", () -> y.runOrders());
-        undone(y, "a change of nothing", () -> y.setLimit(1, 7));
+        CHECK.state("nothing to undo", () -> Check.pool(POOL).undo());
+        undone(() -> Check.pool(POOL),
+            new String[] {"setPolicy", "borrow", "recall", "passDays", "payDividend", "buyShares", "sellShares", "returnShares"},
+            x -> x.setPolicy(2), x -> x.borrow(0, 0, 160, 9), x -> x.recall(0, 0, 60), x -> x.passDays(4),
+            x -> x.payDividend(0, 7), x -> x.buyShares(0, 1, 7), x -> x.sellShares(0, 1, 3), x -> x.returnShares(0, 140));
+        undone(() -> Check.pool(POOL),
+            new String[] {"setPrice", "setRate", "setLimit", "runOrders", "runOrders without orders", "a change of nothing"},
+            x -> x.setPrice(1, 7), x -> x.setRate(1, 7), x -> x.setLimit(1, 7),
+            x -> Check.orders(x, "borrow 0 0 9 9;pass 9;price 0 7;"), x -> x.runOrders(), x -> x.setLimit(1, 7));
+        undone(UndoTest::threeLoans, new String[] {"a closing in the middle", "another one"},
+            x -> x.returnShares(1, 6), x -> x.returnShares(0, 5));
+        LendingPool z = threeLoans();
+        z.returnShares(1, 6);
+        z.returnShares(0, 5);
+        z.undo();
+        z.undo();
+        z.undo();
+        CHECK.due("back to two loans", Check.report(z), "day 2 loans 2\nloan 0 of 5 0:5\nloan 1 of 6 2:6\n");
+        CHECK.due("the number is free again", z.borrow(0, 0, 1, 0), 2);
+    }
+
+    private static LendingPool threeLoans() {
         LendingPool z = Check.pool(POOL);
         z.buyShares(2, 1, 6);
         z.borrow(0, 0, 5, 3);
@@ -72,13 +61,7 @@ public final class UndoTest {
         z.borrow(1, 1, 6, 4);
         z.passDays(1);
         z.borrow(0, 0, 7, 5);
-        undone(z, "a closing in the middle", () -> z.returnShares(1, 6));
-        undone(z, "another one", () -> z.returnShares(0, 5));
-        z.undo();
-        z.undo();
-        z.undo();
-        CHECK.due("back to two loans", Check.report(z), "day 2 loans 2\nloan 0 of 5 0:5\nloan 1 of 6 2:6\n");
-        CHECK.due("the number is free again", z.borrow(0, 0, 1, 0), 2);
+        return z;
     }
 
     private static void promise54TenChanges() {

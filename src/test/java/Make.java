@@ -1,0 +1,4 @@
+/** Makes a pool, always the same one. */
+interface Make {
+    LendingPool pool();
+}

@@ -1,0 +1,4 @@
+/** A call, or some calls, of a pool. */
+interface Use {
+    Object on(LendingPool x);
+}
