@@ -21,6 +21,8 @@ public final class LendingPool {
     private static final int MAX_NOTICE = 30;
     private static final int PERCENT = 100;
     private static final long FEE_DIVISOR = 3600000L;
+    // More than all shares of a security together.
+    private static final int BEYOND_ALL = 1000000;
 
     // The numbers of a pool stand in the order in which count() asks for them.
     private static final int SECURITIES = 0;
@@ -441,7 +443,7 @@ public final class LendingPool {
         needSecurity(security);
         needAllocation(security, quantity);
         int best = NONE;
-        int least = Integer.MAX_VALUE;
+        int least = BEYOND_ALL;
         for (int policy = BY_USE; policy <= BY_TURN; policy++) {
             desk.allocation.share(policy, quantity);
             int spread = desk.allocation.spread();
@@ -1295,8 +1297,8 @@ public final class LendingPool {
 
         void findTightest(int quantity) {
             wanted = quantity;
-            bestSum = Integer.MAX_VALUE;
-            bestSize = Integer.MAX_VALUE;
+            bestSum = BEYOND_ALL;
+            bestSize = BEYOND_ALL;
             bestSet = 0;
             extend(0, 0, 0, 0);
         }

@@ -91,6 +91,13 @@ public final class FaceTest {
             "package ", "System.out", "toString", "hashCode", "static {", "new int[][]", "Math.sqrt", "Object")) {
             CHECK.due("'" + word + "' in the source", code.contains(word), false);
         }
+        Set<String> library = new TreeSet<>();
+        Matcher used = Pattern.compile("\\b(?:Arrays|System|Math|Integer|Long|String|Character|Objects|List)\\.\\w+").matcher(code);
+        while (used.find()) {
+            library.add(used.group());
+        }
+        library.removeAll(Set.of("Arrays.fill", "System.arraycopy", "Math.max", "Math.min"));
+        CHECK.due("what rule 4 does not list", library, Set.of());
         int longest = 0;
         Matcher m = Pattern.compile("(?m)^( {4}| {8})(?:public|private|static|int|long|double|boolean|void|Loan)[^;=\n]*\\("
             + "(?s:.*?)^\\1\\}").matcher(source);
